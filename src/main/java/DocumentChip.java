@@ -765,7 +765,6 @@ public final class DocumentChip {
         }
 
         void begin() {
-            genuine = false;
             way.begin();
             for (int file = 0; file < FILES; file++) {
                 files[file].clear();

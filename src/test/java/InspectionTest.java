@@ -14,6 +14,7 @@ public final class InspectionTest {
         signer();
         signature();
         smallModuli();
+        negativeRoots();
         holder();
         heldFiles();
         Expect.finish();
@@ -207,6 +208,21 @@ public final class InspectionTest {
             other.signWith(9, modulus - 1);
             boolean right = (Model.digest(other.body(9)) >>> 1) % modulus == power;
             verdict("the largest signature modulo " + modulus, other, right ? 0 : 9);
+        }
+    }
+
+    /** An even power of a number below 0 is right too, and yet it is no signature. */
+    private static void negativeRoots() {
+        long word = 0;
+        while ((Model.digest(Papers.genuine(word).body(8)) >>> 1) % 3 != 1) {
+            word++;
+        }
+        for (int signature = -3; signature <= 3; signature++) {
+            Papers papers = Papers.genuine(word);
+            papers.x.trust(8, 3, 2);
+            papers.signWith(8, signature);
+            int due = signature == 1 || signature == 2 ? 0 : 9;
+            verdict("square of " + signature + " modulo 3", papers, due);
         }
     }
 
