@@ -430,7 +430,7 @@ public final class DocumentChip {
             return message.get(3) == Codes.sealOfThree(sealKey, message.get(0), message.get(1), message.get(2));
         }
 
-        /** The words of a row are chained: each one's plain form needs the one before as it was sent (0 before the first). */
+        /** The words are chained: each needs the one before as it was sent (0 before the first). */
         long find(Row message, int i) {
             return Codes.decipher(cipherKey, message.get(i)) ^ message.get(i - 1);
         }
@@ -480,7 +480,7 @@ public final class DocumentChip {
             answer.add(sealOf(answer, answer.size()));
         }
 
-        /** Whether an answer is as it should be with so many words; these follow one another in the row of words then. */
+        /** Whether an answer with so many words is as it should be; they are put behind the row then. */
         boolean unwrap(Row answer, int count, Row words) {
             step();
             int sealed = count + 1;
