@@ -62,16 +62,17 @@ public final class BasicsTest {
         Expect.same("cipher(-1, -1)", x.cipher(-1, -1), 466448225119719840L);
         for (long a : WORDS) {
             for (long b : WORDS) {
-                bothAre(x, a, b);
+                bothAre(a, b);
             }
         }
         Random random = new Random(1);
         for (int n = 0; n < 1000; n++) {
-            bothAre(x, random.nextLong(), random.nextLong());
+            bothAre(random.nextLong(), random.nextLong());
         }
     }
 
-    private static void bothAre(DocumentChip x, long a, long b) {
+    private static void bothAre(long a, long b) {
+        DocumentChip x = new DocumentChip(0, 0, 0);
         Expect.same("digest(" + a + ", " + b + ")", x.digest(a, b), Model.digest(a, b));
         Expect.same("cipher(" + a + ", " + b + ")", x.cipher(a, b), Model.c(a, b));
         Expect.same("D of C of " + b, Model.d(a, x.cipher(a, b)), b);

@@ -3,9 +3,9 @@ import java.util.NoSuchElementException;
 /** Promises 14 (challenge), 15 (prove), 16 (command), 17 (answer), 18 (needed), 19 (hidden) and 20 (chip). */
 public final class ChipTest {
     private static final long[] PICTURE = {11, 22, 33, 44, 55, -66};
-    private static final long[] PROOF = Model.proof(Papers.SEED, Papers.T, Papers.Q, Papers.K);
 
     public static void main(String[] args) {
+        writtenOut();
         challenge();
         prove();
         refusedProofs();
@@ -22,79 +22,71 @@ public final class ChipTest {
         Expect.finish();
     }
 
-    /** A chip with a session that somebody has begun without a desk. */
-    private static Papers opened() {
-        Papers papers = Papers.genuine(PICTURE);
-        papers.x.challenge();
-        send(papers, PROOF);
-        return papers;
+    private static Guest welcome() {
+        return Guest.welcome(Papers.genuine(PICTURE));
     }
 
-    private static long send(Papers papers, long[] proof) {
-        return papers.x.prove(proof[0], proof[1], proof[2], proof[3]);
-    }
-
-    private static int send(Papers papers, Talk talk, int header, long number) {
-        long[] command = talk.command(header, number);
-        return papers.x.command(header, command[1], command[2]);
-    }
-
-    private static void state(String what, Papers papers, int session, int challenge, int selected) {
-        Expect.same("session: " + what, papers.x.chip(0), session);
-        Expect.same("challenge: " + what, papers.x.chip(1), challenge);
-        Expect.same("selected: " + what, papers.x.chip(2), selected);
-    }
-
-    private static void answerIs(String what, Papers papers, long... due) {
-        for (int i = 0; i < due.length; i++) {
-            Expect.same(what + ": answer(" + i + ")", papers.x.answer(i), due[i]);
+    /** Words that were worked out by a program in another language. */
+    private static void writtenOut() {
+        DocumentChip x = new DocumentChip(123456789, 800101, 300101);
+        for (long word : PICTURE) {
+            x.load(2, word);
         }
-        for (int i : new int[] {due.length, due.length + 1, 100, -1, Integer.MAX_VALUE, Integer.MIN_VALUE}) {
-            Expect.same(what + ": answer(" + i + ")", papers.x.answer(i), 0);
-        }
+        x.draw(1, 2, 3003, 4004);
+        Expect.same("challenge()", x.challenge(), 3003);
+        Expect.same("prove", x.prove(-5536002853537926114L, -3843605467015184358L, -1719276405023700286L,
+                -5368283958011786434L), 743512299451832463L);
+        Expect.same("hidden(2)", x.hidden(2), 5266006378999808889L);
+        Expect.same("needed(1)", x.needed(1, 5266006378999808889L), -2128247618238906572L);
+        Expect.same("SELECT", x.command(1, 5266006378999808889L, -2128247618238906572L), 2);
+        Guest.answerIs("SELECT", x, 36864, -326089937578840669L);
+        Expect.same("hidden(67)", x.hidden(67), 2038449886121527941L);
+        Expect.same("needed(2)", x.needed(2, 2038449886121527941L), 193056479712978056L);
+        Expect.same("READ", x.command(2, 2038449886121527941L, 193056479712978056L), 4);
+        Guest.answerIs("READ", x, -1855558609180990521L, -3018412552096776807L, 36864, 1036198323326283331L);
     }
 
     private static void challenge() {
-        Papers papers = opened();
-        send(papers, Papers.talk(), 1, 2);
-        state("before a challenge", papers, 1, 0, 2);
-        Expect.same("challenge()", papers.x.challenge(), Papers.Q);
-        state("after a challenge", papers, 0, 1, -1);
-        answerIs("after a challenge", papers);
-        Expect.same("challenge() again", papers.x.challenge(), Papers.Q);
-        state("after a second one", papers, 0, 1, -1);
+        Guest guest = welcome();
+        guest.select(2);
+        Guest.state("before a challenge", guest.x, 1, 0, 2);
+        Expect.same("challenge()", guest.x.challenge(), Papers.Q);
+        Guest.state("after a challenge", guest.x, 0, 1, -1);
+        Guest.answerIs("after a challenge", guest.x);
+        Expect.same("challenge() again", guest.x.challenge(), Papers.Q);
+        Guest.state("after a second one", guest.x, 0, 1, -1);
     }
 
     private static void prove() {
         Papers papers = Papers.genuine(PICTURE);
+        long[] proof = Guest.proof(papers);
         papers.x.challenge();
-        Expect.same("prove", send(papers, PROOF), Model.proof(Papers.SEED, Papers.Q, Papers.T, Papers.J)[3]);
-        state("after a proof", papers, 1, 0, -1);
-        send(papers, Papers.talk(), 1, 3);
-        Expect.raises("the same proof again", IllegalStateException.class, () -> send(papers, PROOF));
-        state("the session stands", papers, 1, 0, 3);
-        answerIs("the answer stands", papers, answerAfter(Papers.talkAt(4)));
+        Expect.same("prove", Guest.prove(papers, proof),
+                Model.proof(Papers.SEED, Papers.Q, Papers.T, Papers.J)[3]);
+        Guest.state("after a proof", papers.x, 1, 0, -1);
+        Guest guest = Guest.welcome(papers);
+        guest.select(3);
+        Expect.raises("the same proof again", IllegalStateException.class, () -> Guest.prove(papers, proof));
+        Guest.state("the session stands", papers.x, 1, 0, 3);
+        Guest.answerIs("the answer stands", papers.x, Papers.talkAt(4).answer());
         Expect.same("messages() are an inspection's", papers.x.messages(), 0);
         Expect.raises("held without inspection", IllegalStateException.class, () -> papers.x.held(0, 0));
         papers.x.challenge();
-        send(papers, PROOF);
-        state("the new session has nothing selected", papers, 1, 0, -1);
-    }
-
-    private static long[] answerAfter(Talk talk, long... words) {
-        return talk.answer(words);
+        Guest.prove(papers, proof);
+        Guest.state("the new session has nothing selected", papers.x, 1, 0, -1);
     }
 
     private static void refusedProofs() {
         Papers fresh = Papers.genuine(PICTURE);
-        Expect.raises("prove without challenge", IllegalStateException.class, () -> send(fresh, PROOF));
+        long[] proof = Guest.proof(fresh);
+        Expect.raises("prove without challenge", IllegalStateException.class, () -> Guest.prove(fresh, proof));
         for (int i = 0; i < 4; i++) {
-            long[] damaged = PROOF.clone();
+            long[] damaged = proof.clone();
             damaged[i] ^= 1L << 63 - i;
             refused("word " + i + " damaged", damaged);
         }
         for (int i = 0; i < 2; i++) {
-            long[] damaged = PROOF.clone();
+            long[] damaged = proof.clone();
             damaged[i] ^= 1;
             refused("word " + i + " damaged under a right seal",
                     Model.sealed(Papers.SEED, damaged[0], damaged[1], damaged[2]));
@@ -107,9 +99,10 @@ public final class ChipTest {
     private static void refused(String what, long[] proof) {
         Papers papers = Papers.genuine(PICTURE);
         papers.x.challenge();
-        Expect.raises("prove: " + what, IllegalArgumentException.class, () -> send(papers, proof));
-        state(what, papers, 0, 0, -1);
-        Expect.raises("prove once more: " + what, IllegalStateException.class, () -> send(papers, PROOF));
+        Expect.raises("prove: " + what, IllegalArgumentException.class, () -> Guest.prove(papers, proof));
+        Guest.state(what, papers.x, 0, 0, -1);
+        Expect.raises("prove once more: " + what, IllegalStateException.class,
+                () -> Guest.prove(papers, Guest.proof(papers)));
     }
 
     /** The challenge is the one that was given out, J the one drawn when the proof comes. */
@@ -117,7 +110,7 @@ public final class ChipTest {
         Papers papers = Papers.genuine(PICTURE);
         papers.x.challenge();
         papers.x.draw(1, 2, 3, 4);
-        Expect.same("prove after a draw", send(papers, PROOF),
+        Expect.same("prove after a draw", Guest.prove(papers, Guest.proof(papers)),
                 Model.proof(Papers.SEED, Papers.Q, Papers.T, 4)[3]);
         Talk talk = new Talk(Papers.K, 4, Papers.Q, Papers.T);
         Expect.same("hidden after a draw", papers.x.hidden(1), talk.command(1, 1)[1]);
@@ -126,42 +119,28 @@ public final class ChipTest {
     }
 
     private static void commands() {
-        Papers papers = opened();
-        Talk talk = Papers.talk();
-        Expect.same("SELECT of the picture", send(papers, talk, 1, 2), 2);
-        answerIs("SELECT", papers, talk.answer());
-        state("after SELECT", papers, 1, 0, 2);
-        Expect.same("READ of four", send(papers, talk, 2, 4 * 32), 6);
-        answerIs("READ of four", papers, talk.answer(11, 22, 33, 44));
-        Expect.same("READ of two", send(papers, talk, 2, 4 + 2 * 32), 4);
-        answerIs("READ of two", papers, talk.answer(55, -66));
-        Expect.same("SELECT of the list", send(papers, talk, 1, 0), 2);
-        answerIs("SELECT again", papers, talk.answer());
-        Expect.same("READ of one", send(papers, talk, 2, 32), 3);
-        answerIs("READ of one", papers, talk.answer(19));
-        Expect.same("commands done", papers.x.chip(7), 5);
+        Guest guest = welcome();
+        guest.select(2);
+        guest.read(0, 4);
+        guest.read(4, 2);
+        guest.select(0);
+        guest.read(0, 1);
+        Expect.same("commands done", guest.x.chip(7), 5);
         long[] replayed = Papers.talk().command(1, 2);
         Expect.raises("a command once more", IllegalArgumentException.class,
-                () -> papers.x.command(1, replayed[1], replayed[2]));
-        Expect.same("commands done, errors not counted", papers.x.chip(7), 5);
+                () -> guest.x.command(1, replayed[1], replayed[2]));
+        Expect.same("commands done, errors not counted", guest.x.chip(7), 5);
     }
 
     private static void everyPlace() {
         for (int p = 0; p < 32; p++) {
             for (int n = -1; n <= 6; n++) {
-                Papers papers = opened();
-                Talk talk = Papers.talk();
-                send(papers, talk, 1, 2);
-                talk.answer();
-                long number = p + 32L * n;
+                Guest guest = welcome();
+                guest.select(2);
                 if (n >= 1 && n <= 4 && p + n <= PICTURE.length) {
-                    Expect.same("READ of " + n + " from " + p, send(papers, talk, 2, number), n + 2);
-                    answerIs("READ", papers, talk.answer(java.util.Arrays.copyOfRange(PICTURE, p, p + n)));
+                    guest.read(p, n);
                 } else {
-                    Expect.raises("READ of " + n + " from " + p, IndexOutOfBoundsException.class,
-                            () -> send(papers, talk, 2, number));
-                    state("after it", papers, 0, 0, -1);
-                    answerIs("after it", papers);
+                    guest.refused("READ of " + n + " from " + p, IndexOutOfBoundsException.class, 2, p + 32L * n);
                 }
             }
         }
@@ -172,8 +151,8 @@ public final class ChipTest {
         Expect.raises("command without session", IllegalStateException.class, () -> papers.x.command(1, 2, 3));
         papers.x.challenge();
         Expect.raises("command with a challenge alone", IllegalStateException.class, () -> papers.x.command(9, 2, 3));
-        state("the challenge is gone", papers, 0, 0, -1);
-        Expect.raises("prove then", IllegalStateException.class, () -> send(papers, PROOF));
+        Guest.state("the challenge is gone", papers.x, 0, 0, -1);
+        Expect.raises("prove then", IllegalStateException.class, () -> Guest.prove(papers, Guest.proof(papers)));
     }
 
     private static void refusedCommands() {
@@ -190,30 +169,25 @@ public final class ChipTest {
         refusal("READ of nothing with none selected", NoSuchElementException.class, 2, 0, 0);
         for (long number : new long[] {0, 31, 5 * 32, 6 + 32, 3 + 4 * 32, -1, 32 | 1L << 32, 32 | 1L << 63,
             32 | 1L << 37, Long.MAX_VALUE, Long.MIN_VALUE}) {
-            Papers papers = opened();
-            Talk talk = Papers.talk();
-            send(papers, talk, 1, 2);
-            talk.answer();
-            Expect.raises("READ " + number, IndexOutOfBoundsException.class, () -> send(papers, talk, 2, number));
-            state("READ " + number, papers, 0, 0, -1);
-            answerIs("READ " + number, papers);
-            Expect.same("commands done", papers.x.chip(7), 1);
+            Guest guest = welcome();
+            guest.select(2);
+            guest.refused("READ " + number, IndexOutOfBoundsException.class, 2, number);
+            Expect.same("commands done", guest.x.chip(7), 1);
         }
     }
 
     /** The first command of a session, with the seal xored. */
     private static void refusal(String what, Class<? extends RuntimeException> due, int header, long number,
             long seal) {
-        Papers papers = opened();
+        DocumentChip x = welcome().x;
         long[] command = Papers.talk().command(header, number);
-        Expect.raises(what, due, () -> papers.x.command(header, command[1], command[2] ^ seal));
-        state(what, papers, 0, 0, -1);
-        answerIs(what, papers);
-        Expect.same("commands done: " + what, papers.x.chip(7), 0);
-        Expect.raises("then: " + what, IllegalStateException.class,
-                () -> papers.x.command(header, command[1], command[2]));
-        Expect.raises("needed: " + what, IllegalStateException.class, () -> papers.x.needed(1, 1));
-        Expect.raises("hidden: " + what, IllegalStateException.class, () -> papers.x.hidden(1));
+        Expect.raises(what, due, () -> x.command(header, command[1], command[2] ^ seal));
+        Guest.state(what, x, 0, 0, -1);
+        Guest.answerIs(what, x);
+        Expect.same("commands done: " + what, x.chip(7), 0);
+        Expect.raises("then: " + what, IllegalStateException.class, () -> x.command(header, command[1], command[2]));
+        Expect.raises("needed: " + what, IllegalStateException.class, () -> x.needed(1, 1));
+        Expect.raises("hidden: " + what, IllegalStateException.class, () -> x.hidden(1));
     }
 
     private static void orderOfErrors() {
@@ -224,31 +198,25 @@ public final class ChipTest {
     }
 
     private static void filesThatChange() {
-        Papers papers = opened();
-        Talk talk = Papers.talk();
-        send(papers, talk, 1, 3);
-        talk.answer();
-        papers.x.load(3, 5);
-        Expect.same("READ of a word loaded since", send(papers, talk, 2, 4 + 32), 3);
-        answerIs("READ of it", papers, talk.answer(5));
-        papers.x.sign(1);
-        Expect.raises("READ of a word that is gone", IndexOutOfBoundsException.class,
-                () -> send(papers, talk, 2, 3 + 32));
+        Guest guest = welcome();
+        guest.select(3);
+        guest.papers.put(3, 5);
+        guest.read(4, 1);
+        guest.x.sign(1);
+        guest.refused("READ of a word that is gone", IndexOutOfBoundsException.class, 2, 3 + 32);
     }
 
     private static void answers() {
-        Papers papers = opened();
-        answerIs("before a command", papers);
-        Talk talk = Papers.talk();
-        send(papers, talk, 1, 0);
-        long[] due = talk.answer();
-        papers.x.load(2, 1);
-        papers.x.draw(1, 2, 3, 4);
-        papers.x.needed(1, 1);
-        papers.x.hidden(1);
-        answerIs("other calls leave it", papers, due);
-        papers.x.inspect();
-        answerIs("after an inspection", papers);
+        Guest guest = welcome();
+        Guest.answerIs("before a command", guest.x);
+        guest.select(0);
+        guest.x.load(2, 1);
+        guest.x.draw(1, 2, 3, 4);
+        guest.x.needed(1, 1);
+        guest.x.hidden(1);
+        Guest.answerIs("other calls leave it", guest.x, Papers.talkAt(4).answer());
+        guest.x.inspect();
+        Guest.answerIs("after an inspection", guest.x);
     }
 
     private static void neededAndHidden() {
@@ -258,7 +226,7 @@ public final class ChipTest {
         papers.x.challenge();
         Expect.raises("needed with a challenge alone", IllegalStateException.class, () -> papers.x.needed(1, 1));
         Expect.raises("hidden with a challenge alone", IllegalStateException.class, () -> papers.x.hidden(1));
-        send(papers, PROOF);
+        Guest.prove(papers, Guest.proof(papers));
         Talk talk = Papers.talk();
         for (int round = 0; round < 3; round++) {
             long[] command = talk.command(1, round);
@@ -270,18 +238,6 @@ public final class ChipTest {
             papers.x.command(1, command[1], command[2]);
             talk.answer();
         }
-        counterWraps();
-    }
-
-    private static void counterWraps() {
-        Papers papers = Papers.genuine(PICTURE);
-        papers.x.draw(0, 0, -1, 0);
-        papers.x.challenge();
-        send(papers, Model.proof(Papers.SEED, -1, -1, 5));
-        Talk talk = new Talk(5, 0, -1, -1);
-        Expect.same("a counter of -1 grows to 0", papers.x.hidden(3), Model.c(talk.e, 3));
-        send(papers, talk, 1, 3);
-        answerIs("a counter of 1", papers, talk.answer());
     }
 
     private static void chip() {

@@ -1,5 +1,6 @@
 import java.math.BigInteger;
 import java.util.ArrayList;
+import java.util.Arrays;
 import java.util.List;
 
 /** A document whose files, print and signer the tests choose, and the messages of its inspection foretold. */
@@ -17,33 +18,50 @@ final class Papers {
     static final long Q = 0x7FEDCBA987654321L;
     static final long J = 4004;
 
-    final DocumentChip x = new DocumentChip(NUMBER, BIRTH, END);
+    final DocumentChip x;
+    final long[] line;
+    final long seed;
     final long[][] files = new long[4][0];
 
-    /** Print, signer and drawn words are there; the chip is empty. */
     Papers() {
-        for (int field = 0; field < 3; field++) {
-            x.print(field, (int) (LINE[field] / 10), (int) (LINE[field] % 10));
-        }
+        this(NUMBER, BIRTH, END);
+    }
+
+    /** Print, signer and drawn words are there; the chip is empty. */
+    Papers(int number, int birth, int end) {
+        x = new DocumentChip(number, birth, end);
+        line = Model.line(number, birth, end);
+        seed = Model.digest(line);
+        printRight();
         x.trust(NAME, MODULUS, EXPONENT);
         x.draw(T, K, Q, J);
     }
 
     /** A document that is genuine. */
     static Papers genuine(long... picture) {
-        Papers papers = new Papers();
-        papers.put(0, 19);
-        papers.put(1, LINE);
-        papers.put(2, picture);
-        papers.sign(NAME);
-        return papers;
+        return new Papers().filled(picture);
+    }
+
+    /** Puts into empty files what makes the document genuine. */
+    Papers filled(long... picture) {
+        put(0, 19);
+        put(1, line);
+        put(2, picture);
+        sign(NAME);
+        return this;
+    }
+
+    void printRight() {
+        for (int field = 0; field < 3; field++) {
+            x.print(field, (int) (line[field] / 10), (int) (line[field] % 10));
+        }
     }
 
     /** Words behind a file. */
     void put(int file, long... words) {
         for (long word : words) {
             x.load(file, word);
-            long[] longer = java.util.Arrays.copyOf(files[file], files[file].length + 1);
+            long[] longer = Arrays.copyOf(files[file], files[file].length + 1);
             longer[longer.length - 1] = word;
             files[file] = longer;
         }
@@ -80,14 +98,14 @@ final class Papers {
         List<long[]> all = new ArrayList<>();
         all.add(new long[0]);
         all.add(new long[] {Q});
-        all.add(Model.proof(SEED, T, Q, K));
-        all.add(Model.proof(SEED, Q, T, J));
+        all.add(Model.proof(seed, T, Q, K));
+        all.add(Model.proof(seed, Q, T, J));
         Talk talk = talk();
         for (int file : new int[] {3, 0, 1, 2}) {
             all.add(talk.command(1, file));
             all.add(talk.answer());
             for (int p = 0; p < files[file].length; p += 4) {
-                long[] words = java.util.Arrays.copyOfRange(files[file], p, Math.min(p + 4, files[file].length));
+                long[] words = Arrays.copyOfRange(files[file], p, Math.min(p + 4, files[file].length));
                 all.add(talk.command(2, p + 32 * words.length));
                 all.add(talk.answer(words));
             }
